@@ -2,8 +2,8 @@
 public final class CredentialTest {
     private static final Checks CHECKS = new Checks();
     private static final int[] NO_NUMBERS = {-1, 100, 513, Integer.MIN_VALUE, Integer.MAX_VALUE};
-    private static final int[] NO_PATHS = {0, -1, 9, 19, 91, 10, 1000000, 1234567, Integer.MIN_VALUE,
-        Integer.MAX_VALUE};
+    private static final int[] NO_PATHS = {0, -1, 9, 19, 91, 10, 911111, 119111, 111119, 1000000,
+        1111111, 1234567, Integer.MIN_VALUE, Integer.MAX_VALUE};
 
     public static void main(String[] args) {
         requesting();
@@ -15,6 +15,7 @@ public final class CredentialTest {
         renewingWrongly();
         revokingBelow();
         ending();
+        endingWithTheToken();
         counting();
         fromBeginningToEnd();
         CHECKS.end("CredentialTest");
@@ -148,14 +149,16 @@ public final class CredentialTest {
         broker.request(1, 1);
         CHECKS.due("not earlier", broker.renewCredential(1, 3), 10);
         CHECKS.entry("not earlier", broker, 4, SecretBroker.RENEWED, 1, 10);
+        CHECKS.due("by one minute", broker.renewCredential(1, 1), 10);
+        CHECKS.entry("by one minute", broker, 5, SecretBroker.RENEWED, 1, 10);
         CHECKS.due("longer", broker.renewCredential(1, 12), 12);
-        CHECKS.entry("longer", broker, 5, SecretBroker.RENEWED, 1, 12);
+        CHECKS.entry("longer", broker, 6, SecretBroker.RENEWED, 1, 12);
         broker.pass(11);
         CHECKS.due("from the time on", broker.renewCredential(1, 8), 19);
         CHECKS.due("to the bound", broker.renewCredential(1, 20), 30);
         CHECKS.due("the other keeps its end", broker.endOfCredential(0), 30);
         CHECKS.due("the most", broker.renewCredential(0, 1000), 1011);
-        CHECKS.entry("the most", broker, 8, SecretBroker.RENEWED, 0, 1011);
+        CHECKS.entry("the most", broker, 9, SecretBroker.RENEWED, 0, 1011);
         CHECKS.due("its end", broker.endOfCredential(0), 1011);
         CHECKS.due("till the bound", broker.pass(18), 0);
         CHECKS.due("and no longer", broker.pass(1), 1);
@@ -237,6 +240,27 @@ public final class CredentialTest {
             CHECKS.refused("end of " + credential, broker, Checks.BAD_NUMBER,
                     () -> broker.endOfCredential(credential));
         }
+    }
+
+    private static void endingWithTheToken() {
+        SecretBroker revoked = broker();
+        revoked.request(1, 1);
+        revoked.revoke(1);
+        CHECKS.due("token revoked", revoked.works(0), false);
+        SecretBroker alone = broker();
+        alone.request(1, 1);
+        alone.revokeAlone(1);
+        CHECKS.due("token revoked alone", alone.works(0), false);
+        SecretBroker ended = broker();
+        ended.create(1, 1, 9, 9, 0);
+        ended.request(2, 12);
+        CHECKS.due("both end", ended.pass(9), 2);
+        CHECKS.due("token ended", ended.works(0), false);
+        SecretBroker below = broker();
+        below.create(1, 1, 9, 9, 0);
+        below.request(2, 12);
+        CHECKS.due("three cease", below.revoke(1), 3);
+        CHECKS.due("token below a revoked one", below.works(0), false);
     }
 
     private static void counting() {

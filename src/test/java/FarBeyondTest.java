@@ -5,12 +5,16 @@
 public final class FarBeyondTest {
     public static void main(String[] args) {
         Checks checks = new Checks();
+        int[] numbers = new int[520];
+        for (int i = 0; i < numbers.length; i++) {
+            numbers[i] = i;
+        }
         for (int run = 0; run < 40; run++) {
             SecretBroker broker = new SecretBroker();
-            Calls calls = new Calls(run, run % 2 == 0 ? 3 : 50, run % 4 < 2 ? 5 : 1000);
+            Calls calls = new Calls(run, run % 2 == 0 ? 3 : 50, run % 4 < 2 ? 20 : 1000);
             for (int i = 0; i < 10000; i++) {
                 int kind = calls.kind();
-                int[] arguments = ModelTest.arguments(kind, calls, broker);
+                int[] arguments = ModelTest.arguments(kind, calls, numbers, numbers, broker.entries());
                 Object outcome = Checks.outcome(() -> ModelTest.asked(broker, kind, arguments));
                 boolean fine = !(outcome instanceof String) || outcome.equals(Checks.BAD_NUMBER)
                         || outcome.equals(Checks.BAD_ARGUMENT) || outcome.equals(Checks.BAD_STATE);

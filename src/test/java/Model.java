@@ -1,6 +1,7 @@
 import java.util.ArrayList;
 import java.util.List;
 import java.util.TreeMap;
+import java.util.stream.IntStream;
 
 /**
  * The document once more, written in another way than the class: texts for paths, objects for tokens,
@@ -49,6 +50,18 @@ final class Model {
 
     int tokensMade() {
         return tokens.size();
+    }
+
+    int[] livingTokens() {
+        return living(tokens);
+    }
+
+    int[] livingCredentials() {
+        return living(credentials);
+    }
+
+    private static int[] living(List<? extends Lease> leases) {
+        return IntStream.range(0, leases.size()).filter(i -> leases.get(i).alive).toArray();
     }
 
     int credentialsMade() {

@@ -6,8 +6,8 @@ public final class ModelTest {
 
     public static void main(String[] args) {
         for (int run = 0; run < RUNS; run++) {
-            int slowness = run % 3 == 0 ? 3 : run % 3 == 1 ? 15 : 200;
-            run(run, new Calls(run, run % 2 == 0 ? 200 : 12, slowness));
+            int longest = run % 3 == 0 ? 40 : run % 3 == 1 ? 200 : 1000;
+            run(run, new Calls(run, run % 2 == 0 ? 200 : 20, longest));
         }
         for (int kind = 0; kind < Calls.KINDS; kind++) {
             CHECKS.due("call " + kind + " answered at least once", DEEDS[kind * 4] > 0, true);
@@ -19,8 +19,9 @@ public final class ModelTest {
         SecretBroker broker = new SecretBroker();
         Model model = new Model();
         for (int i = 0; i < 512; i++) {
-            int kind = i < 6 && run % 4 != 0 ? (i < 3 ? 0 : 3) : calls.kind();
-            int[] arguments = arguments(kind, calls, broker);
+            int kind = i < 6 && run % 4 != 0 ? i / 3 * 3 : calls.kind();
+            int[] arguments = arguments(kind, calls, model.livingTokens(), model.livingCredentials(),
+                    model.entries());
             Object got = Checks.outcome(() -> asked(broker, kind, arguments));
             Object want = Checks.outcome(() -> asked(model, kind, arguments));
             CHECKS.due("run " + run + ", call " + i + ", " + told(kind, arguments), got, want);
@@ -38,31 +39,27 @@ public final class ModelTest {
         return "kind " + kind + " of " + java.util.Arrays.toString(arguments);
     }
 
-    static int[] arguments(int kind, Calls calls, SecretBroker broker) {
-        int token = calls.between(0, Math.max(3, 2 * broker.tokens()));
-        if (kind == 15 || kind == 5) {
-            token = calls.below(3) == 0 ? 0 : token;
-        }
-        int credential = calls.between(0, 2 * broker.credentials() + 3);
-        int entry = calls.between(0, broker.entries());
-        int bound = calls.minutes();
+    /** Of tokens and credentials, mostly one of those named is taken, so that the deeds meet what is alive. */
+    static int[] arguments(int kind, Calls calls, int[] tokens, int[] credentials, int entries) {
+        int token = calls.among(tokens);
+        int credential = calls.among(credentials);
         switch (kind) {
             case 1:
-                return new int[] {calls.between(0, 3), calls.path(9), calls.below(2), calls.between(0, 15)};
+                return new int[] {calls.between(0, 3), calls.path(9), calls.below(2), calls.ruleSet()};
             case 2:
-                return new int[] {calls.between(0, 12)};
+                return new int[] {calls.between(0, 30)};
             case 3:
-                return new int[] {calls.path(8), calls.between(1, bound > 0 && bound < 999 ? bound : 3), bound};
-            case 4:
-                return new int[] {};
+                int longest = calls.minutes();
+                return new int[] {calls.path(8), calls.between(1, longest > 0 && longest < 999 ? longest : 3),
+                    longest};
             case 5:
-                int minutes = calls.between(1, 40);
-                int most = minutes > 0 && minutes < 1001 ? minutes + 30 : 5;
-                int set = token == 0 ? calls.between(0, 15) : calls.between(0, 3);
-                return new int[] {token, set, minutes, calls.between(minutes < most ? minutes : 1, most),
-                    Math.min(calls.between(0, 4), calls.between(0, 100))};
+                int minutes = calls.minutes();
+                int most = minutes > 0 && minutes < 1001 ? minutes * 3 : 5;
+                return new int[] {token, calls.policies(token == 0), minutes,
+                    calls.between(minutes < most ? minutes : 1, most),
+                    calls.below(3) == 0 ? calls.between(0, 9) : calls.between(0, 0)};
             case 6: case 18:
-                return new int[] {kind == 6 ? token : credential, calls.minutes() + calls.below(20)};
+                return new int[] {kind == 6 ? token : credential, calls.minutes()};
             case 14: case 15: case 16:
                 return new int[] {token, calls.path(8)};
             case 19:
@@ -70,9 +67,9 @@ public final class ModelTest {
             case 20: case 21:
                 return new int[] {credential};
             case 24:
-                return new int[] {calls.minutes()};
+                return new int[] {calls.steps()};
             case 28: case 29: case 30: case 27:
-                return new int[] {entry};
+                return new int[] {calls.between(0, entries)};
             default:
                 return new int[] {token};
         }

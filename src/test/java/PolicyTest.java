@@ -123,9 +123,10 @@ public final class PolicyTest {
         CHECKS.due("clear none", broker.clear(0), 0);
         capable(broker, 1, 1, 2);
         capable(broker, 2, 1, 0);
-        CHECKS.due("a rule behind clear", broker.allow(0, 2, true, 4), 1);
+        CHECKS.due("a rule behind clear", broker.allow(0, 3, true, 4), 1);
         capable(broker, 2, 1, 0);
-        capable(broker, 2, 2, 4);
+        capable(broker, 2, 2, 0);
+        capable(broker, 2, 3, 4);
         for (int policy : new int[] {-1, 2, 8, Integer.MIN_VALUE, Integer.MAX_VALUE}) {
             CHECKS.refused("clear " + policy, broker, Checks.BAD_NUMBER, () -> broker.clear(policy));
         }
@@ -154,6 +155,12 @@ public final class PolicyTest {
         capable(broker, 1, 53, 0);
         capable(broker, 1, 1532, 0);
         capable(broker, 2, 582, 0);
+        broker.allow(0, 399996, false, 4);
+        broker.allow(0, 499996, true, 2);
+        capable(broker, 2, 312346, 4);
+        capable(broker, 2, 412346, 2);
+        capable(broker, 2, 212346, 0);
+        capable(broker, 2, 412345, 0);
     }
 
     private static void longestRuleDecides() {
@@ -219,8 +226,8 @@ public final class PolicyTest {
         capable(broker, bare, 12, 0);
         CHECKS.refused("no token", broker, Checks.BAD_NUMBER, () -> broker.capabilities(4, 1));
         CHECKS.refused("no token, no path", broker, Checks.BAD_NUMBER, () -> broker.capabilities(-1, 9));
-        for (int path : new int[] {0, -1, 9, 19, 91, 10, 1000000, 1234567, Integer.MIN_VALUE,
-                Integer.MAX_VALUE}) {
+        for (int path : new int[] {0, -1, 9, 19, 91, 10, 911111, 119111, 111119, 1000000, 1111111,
+                Integer.MIN_VALUE, Integer.MAX_VALUE}) {
             CHECKS.refused("no path " + path, broker, Checks.BAD_ARGUMENT, () -> broker.capabilities(1, path));
         }
     }
@@ -252,7 +259,8 @@ public final class PolicyTest {
 
     private static void mountingWrongly() {
         SecretBroker broker = new SecretBroker();
-        for (int path : new int[] {0, -1, 9, 19, 10, 1000000, 1234567, Integer.MIN_VALUE, Integer.MAX_VALUE}) {
+        for (int path : new int[] {0, -1, 9, 19, 10, 911111, 111119, 1000000, 1234567,
+                Integer.MIN_VALUE, Integer.MAX_VALUE}) {
             CHECKS.refused("mount at " + path, broker, Checks.BAD_ARGUMENT, () -> broker.mount(path, 1, 1));
         }
         for (int minutes : new int[] {0, -1, 1001, Integer.MIN_VALUE, Integer.MAX_VALUE}) {

@@ -144,11 +144,12 @@ public final class TokenTest {
         CHECKS.due("not earlier", broker.renew(1, 3), 11);
         CHECKS.entry("not earlier", broker, 3, SecretBroker.RENEWED, 1, 11);
         broker.pass(8);
+        CHECKS.due("by one minute", broker.renew(1, 1), 11);
         CHECKS.due("from the time on", broker.renew(1, 10), 18);
         CHECKS.due("its end", broker.endOf(1), 18);
         CHECKS.due("up to the bound", broker.renew(1, 17), 25);
         CHECKS.due("no further", broker.renew(1, 1000), 25);
-        CHECKS.entry("no further", broker, 6, SecretBroker.RENEWED, 1, 25);
+        CHECKS.entry("no further", broker, 7, SecretBroker.RENEWED, 1, 25);
         CHECKS.due("not ended", broker.pass(16), 0);
         CHECKS.due("ended", broker.pass(1), 1);
         broker.create(0, 0, 2, 5000, 0);
