@@ -4,18 +4,13 @@ public final class AuditTest {
 
     public static void main(String[] args) {
         passing();
-        passingWrongly();
         nextEnds();
         sums();
-        noSuchEntries();
-        everyCallMakesAnEntry();
-        everyCallMakesAToken();
-        everyCallMakesACredential();
         CHECKS.end("AuditTest");
     }
 
     private static void passing() {
-        SecretBroker broker = new SecretBroker();
+        Broker broker = new Broker();
         broker.mount(1, 10, 10);
         broker.create(0, 0, 20, 20, 0);
         broker.create(1, 0, 30, 30, 0);
@@ -36,18 +31,8 @@ public final class AuditTest {
         CHECKS.due("each once", broker.pass(600), 3);
     }
 
-    private static void passingWrongly() {
-        SecretBroker broker = new SecretBroker();
-        broker.create(0, 0, 1, 1, 0);
-        for (int minutes : new int[] {0, -1, 1001, Integer.MIN_VALUE, Integer.MAX_VALUE}) {
-            CHECKS.refused("pass " + minutes, broker, Checks.BAD_ARGUMENT, () -> broker.pass(minutes));
-        }
-        CHECKS.due("time stands", broker.time(), 0);
-        CHECKS.due("the token stands", broker.isAlive(1), true);
-    }
-
     private static void nextEnds() {
-        SecretBroker broker = new SecretBroker();
+        Broker broker = new Broker();
         broker.mount(1, 40, 70);
         broker.mount(2, 5, 5);
         CHECKS.due("none", broker.nextEnd(), -1);
@@ -74,7 +59,7 @@ public final class AuditTest {
     }
 
     private static void sums() {
-        SecretBroker broker = new SecretBroker();
+        Broker broker = new Broker();
         broker.mount(1, 10, 10);
         broker.create(0, 0, 20, 20, 0);
         broker.renew(1, 9);
@@ -98,54 +83,5 @@ public final class AuditTest {
             CHECKS.due("sum " + i, broker.sumOf(i), sum);
         }
         CHECKS.due("the first sum", broker.sumOf(0), 530L);
-    }
-
-    private static void noSuchEntries() {
-        SecretBroker broker = new SecretBroker();
-        for (int round = 0; round < 2; round++) {
-            for (int entry : new int[] {-1, round, 511, 512, 513, Integer.MIN_VALUE, Integer.MAX_VALUE}) {
-                CHECKS.refused("kind of " + entry, broker, Checks.BAD_NUMBER, () -> broker.kindOf(entry));
-                CHECKS.refused("subject of " + entry, broker, Checks.BAD_NUMBER, () -> broker.subjectOf(entry));
-                CHECKS.refused("detail of " + entry, broker, Checks.BAD_NUMBER, () -> broker.detailOf(entry));
-                CHECKS.refused("sum of " + entry, broker, Checks.BAD_NUMBER, () -> broker.sumOf(entry));
-            }
-            broker.revokeBelow(1);
-        }
-    }
-
-    private static void everyCallMakesAnEntry() {
-        SecretBroker broker = new SecretBroker();
-        long sum = 17;
-        for (int i = 0; i < 510; i++) {
-            CHECKS.due("denied " + i, broker.request(0, 1), -1);
-            sum = (31 * sum + 7 * SecretBroker.DENIED + 3 * SecretBroker.UNMOUNTED) % 1000003;
-        }
-        CHECKS.due("510 entries", broker.entries(), 510);
-        CHECKS.due("the last sum", broker.sumOf(509), sum);
-    }
-
-    private static void everyCallMakesAToken() {
-        SecretBroker broker = new SecretBroker();
-        for (int token = 1; token <= 492; token++) {
-            CHECKS.due("token " + token, broker.create(0, 0, 1, 1, 0), token);
-            if (token % 29 == 0) {
-                CHECKS.due("all end", broker.pass(1), 29);
-            }
-        }
-        CHECKS.due("the last is alive", broker.isAlive(492), true);
-        CHECKS.due("entries", broker.entries(), 492 + 16);
-    }
-
-    private static void everyCallMakesACredential() {
-        SecretBroker broker = new SecretBroker();
-        broker.mount(1, 1, 1);
-        for (int credential = 0; credential < 497; credential++) {
-            CHECKS.due("credential " + credential, broker.request(0, 1), credential);
-            if (credential % 40 == 39) {
-                CHECKS.due("all end", broker.pass(1), 40);
-            }
-        }
-        CHECKS.due("the last works", broker.works(496), true);
-        CHECKS.due("17 are alive", broker.credentials(), 17);
     }
 }

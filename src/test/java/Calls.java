@@ -1,8 +1,12 @@
 /** Calls picked by a number that goes on by itself, so that the same seed always picks the same ones. */
 final class Calls {
+    static final String[] DEEDS = {"policy", "allow", "clear", "mount", "create", "renew", "revoke",
+        "revokeAlone", "request", "renewCredential", "revokeBelow", "pass"};
+    static final String[] QUESTIONS = {"isAlive", "parentOf", "endOf", "usesLeft", "below", "tokens",
+        "capabilities", "whyDenied", "works", "endOfCredential", "credentials", "credentialsOf", "time",
+        "nextEnd", "entries", "kindOf", "subjectOf", "detailOf", "sumOf"};
     private static final int[] WILD = {0, -1, 9, 10, 19, 91, 29, 101, 1000, 1001, 5000, 5001, 40, 512, 513,
         514, 911111, 119111, 111119, 999999, 1000000, 1234567, Integer.MIN_VALUE, Integer.MAX_VALUE};
-    static final int KINDS = 31;
 
     private long seed;
     private final int wildOneIn;
@@ -15,20 +19,16 @@ final class Calls {
         this.longest = longest;
     }
 
-    int below(int bound) {
+    private int below(int bound) {
         seed = seed * 6364136223846793005L + 1442695040888963407L;
         return (int) ((seed >>> 33) % bound);
     }
 
-    private int wild() {
-        return WILD[below(WILD.length)];
+    private int between(int least, int greatest) {
+        return below(wildOneIn) == 0 ? WILD[below(WILD.length)] : least + below(greatest - least + 1);
     }
 
-    int between(int least, int greatest) {
-        return below(wildOneIn) == 0 ? wild() : least + below(greatest - least + 1);
-    }
-
-    int among(int[] numbers) {
+    private int among(int[] numbers) {
         if (numbers.length == 0 || below(8) == 0) {
             return between(0, 2 * numbers.length + 2);
         }
@@ -36,9 +36,9 @@ final class Calls {
     }
 
     /** A path, or with 9 as the greatest digit a pattern: mostly short, of few folders, so that they meet. */
-    int path(int greatest) {
+    private int path(int greatest) {
         if (below(wildOneIn) == 0) {
-            return wild();
+            return WILD[below(WILD.length)];
         }
         int length = 1 + Math.min(below(6), below(6));
         int path = 0;
@@ -49,37 +49,81 @@ final class Calls {
     }
 
     /** Seldom one with DENY, which hides what the others have. */
-    int ruleSet() {
+    private int ruleSet() {
         return below(4) == 0 ? between(0, 15) : between(0, 7);
     }
 
-    int policies(boolean many) {
+    private int policies(boolean many) {
         return many ? between(0, 15) & between(0, 15) | between(0, 7) : between(0, 15) & below(16);
     }
 
-    /** Where leases are long, little is revoked, so that there come to be as many as there may be. */
-    int kind() {
-        int kind = anyKind();
-        boolean ends = kind == 7 || kind == 8 || kind == 19 || kind == 24;
-        return ends && longest > 500 && below(4) > 0 ? anyKind() : kind;
-    }
-
-    private int anyKind() {
-        int roll = below(100);
-        if (roll < 24) {
-            return 15;
-        }
-        if (roll < 38) {
-            return 5;
-        }
-        return roll < 46 ? 1 : below(KINDS);
-    }
-
-    int minutes() {
+    private int minutes() {
         return between(1, longest);
     }
 
-    int steps() {
-        return between(1, Math.max(1, longest > 500 ? longest / 50 : longest / 4));
+    /** Where leases are long, little is revoked, so that there come to be as many as there may be. */
+    String call() {
+        String call = anyCall();
+        boolean ends = call.startsWith("revoke") || call.equals("pass");
+        return ends && longest > 500 && below(4) > 0 ? anyCall() : call;
+    }
+
+    private String anyCall() {
+        int roll = below(100);
+        if (roll < 24) {
+            return "request";
+        }
+        if (roll < 38) {
+            return "create";
+        }
+        if (roll < 46) {
+            return "allow";
+        }
+        return roll < 67 ? DEEDS[below(DEEDS.length)] : question();
+    }
+
+    String question() {
+        return QUESTIONS[below(QUESTIONS.length)];
+    }
+
+    /** Of tokens and credentials, mostly one of those named is taken, so that the deeds meet what is alive. */
+    int[] arguments(String call, int[] tokens, int[] credentials, int entries) {
+        int token = among(tokens);
+        switch (call) {
+            case "policy": case "tokens": case "credentials": case "time": case "nextEnd": case "entries":
+                return new int[0];
+            case "allow":
+                return new int[] {between(0, 3), path(9), below(2), ruleSet()};
+            case "clear":
+                return new int[] {between(0, 30)};
+            case "mount":
+                int bound = minutes();
+                return new int[] {path(8), between(1, bound > 0 && bound < 999 ? bound : 3), bound};
+            case "create":
+                return create(token);
+            case "renew":
+                return new int[] {token, minutes()};
+            case "renewCredential":
+                return new int[] {among(credentials), minutes()};
+            case "request": case "capabilities": case "whyDenied":
+                return new int[] {token, path(8)};
+            case "revokeBelow":
+                return new int[] {path(8) * (below(3) == 0 ? 1 : 10) + 1};
+            case "works": case "endOfCredential":
+                return new int[] {among(credentials)};
+            case "pass":
+                return new int[] {between(1, Math.max(1, longest > 500 ? longest / 50 : longest / 4))};
+            case "kindOf": case "subjectOf": case "detailOf": case "sumOf":
+                return new int[] {between(0, entries)};
+            default:
+                return new int[] {token};
+        }
+    }
+
+    private int[] create(int parent) {
+        int minutes = minutes();
+        int most = minutes > 0 && minutes < 1001 ? minutes * 3 : 5;
+        return new int[] {parent, policies(parent == 0), minutes,
+            between(minutes < most ? minutes : 1, most), below(3) == 0 ? between(0, 9) : between(0, 0)};
     }
 }

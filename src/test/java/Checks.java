@@ -8,7 +8,17 @@ final class Checks {
         Object answer();
     }
 
+    interface Past {
+        void live(Broker broker);
+    }
+
     private int wrong = 0;
+
+    static Broker after(Past past) {
+        Broker broker = new Broker();
+        past.live(broker);
+        return broker;
+    }
 
     void due(String what, Object got, Object want) {
         if (!want.equals(got)) {
@@ -30,61 +40,44 @@ final class Checks {
         due(what, outcome(call), exception);
     }
 
-    /** The same, and the call must leave all that one can ask of the broker as it is. */
-    void refused(String what, SecretBroker broker, String exception, Call call) {
-        String before = look(broker);
-        due(what, outcome(call), exception);
-        due(what + ", state behind it", look(broker), before);
+    static String told(String call, int... arguments) {
+        String text = java.util.Arrays.toString(arguments);
+        return call + "(" + text.substring(1, text.length() - 1) + ")";
     }
 
-    /** The last entry as kind, subject and detail, with the number of entries ahead. */
-    void entry(String what, SecretBroker broker, int entries, int kind, int subject, int detail) {
-        due(what + ", entries", broker.entries(), entries);
+    /** The call, as the next one of a broker with that past, must answer this. */
+    void answered(Past past, Object want, String call, int... arguments) {
+        due(told(call, arguments), after(past).ask(call, arguments), want);
+    }
+
+    /** The call must throw, and change nothing: later calls show what they show of a twin without it. */
+    void refused(Past past, String exception, String call, int... arguments) {
+        for (int probe = 0; probe < Probes.COUNT; probe++) {
+            Broker broker = after(past);
+            due(told(call, arguments), broker.ask(call, arguments), exception);
+            shownAlike(told(call, arguments), Probes.shown(probe, broker), Probes.shown(probe, after(past)));
+        }
+    }
+
+    private void shownAlike(String what, String got, String want) {
+        String[] gotLines = got.split("\n");
+        String[] wantLines = want.split("\n");
+        for (int i = 0; i < Math.min(gotLines.length, wantLines.length); i++) {
+            if (!gotLines[i].equals(wantLines[i])) {
+                due(what + ", shown later", gotLines[i], wantLines[i]);
+                return;
+            }
+        }
+        due(what + ", lines shown later", gotLines.length, wantLines.length);
+    }
+
+    /** The last entry as kind, subject and detail, and how many entries there are. */
+    void entry(String what, Broker broker, int entries, int kind, int subject, int detail) {
         int last = broker.entries() - 1;
+        due(what + ", entries", last + 1, entries);
         due(what + ", kind", outcome(() -> broker.kindOf(last)), kind);
         due(what + ", subject", outcome(() -> broker.subjectOf(last)), subject);
         due(what + ", detail", outcome(() -> broker.detailOf(last)), detail);
-    }
-
-    /** All that can be asked without changing anything, as one text. */
-    static String look(SecretBroker broker) {
-        StringBuilder text = new StringBuilder();
-        text.append(broker.time()).append(' ').append(broker.nextEnd()).append(' ');
-        text.append(broker.tokens()).append(' ').append(broker.credentials()).append('\n');
-        int[] paths = {1, 2, 11, 12, 122, 123, 1223, 133, 8, 88, 123456, 888888};
-        int token = 0;
-        for (; Checks.isNumber(outcome(tokenCall(broker, token))); token++) {
-            int t = token;
-            text.append(" t").append(t).append(broker.isAlive(t)).append(broker.parentOf(t)).append(',');
-            text.append(broker.endOf(t)).append(',').append(broker.usesLeft(t)).append(',');
-            text.append(broker.below(t)).append(',').append(broker.credentialsOf(t));
-            for (int path : paths) {
-                text.append(',').append(broker.capabilities(t, path));
-                text.append(broker.whyDenied(t, path));
-            }
-        }
-        text.append('\n');
-        for (int i = 0; isNumber(outcome(credentialCall(broker, i))); i++) {
-            text.append(" c").append(broker.works(i)).append(broker.endOfCredential(i));
-        }
-        text.append('\n');
-        for (int i = 0; i < broker.entries(); i++) {
-            text.append(" e").append(broker.kindOf(i)).append(',').append(broker.subjectOf(i));
-            text.append(',').append(broker.detailOf(i)).append(',').append(broker.sumOf(i));
-        }
-        return text.toString();
-    }
-
-    private static Call tokenCall(SecretBroker broker, int token) {
-        return () -> broker.endOf(token);
-    }
-
-    private static Call credentialCall(SecretBroker broker, int credential) {
-        return () -> broker.endOfCredential(credential);
-    }
-
-    private static boolean isNumber(Object outcome) {
-        return outcome instanceof Integer;
     }
 
     void end(String name) {

@@ -48,6 +48,48 @@ final class Model {
         tokens.add(root);
     }
 
+    /** As a Broker is asked. */
+    Object ask(String call, int... a) {
+        return Checks.outcome(() -> answer(call, a));
+    }
+
+    private Object answer(String call, int[] a) {
+        switch (call) {
+            case "policy": return policy();
+            case "allow": return allow(a[0], a[1], a[2] != 0, a[3]);
+            case "clear": return clear(a[0]);
+            case "mount": return mount(a[0], a[1], a[2]);
+            case "create": return create(a[0], a[1], a[2], a[3], a[4]);
+            case "renew": return renew(a[0], a[1]);
+            case "revoke": return revoke(a[0]);
+            case "revokeAlone": return revokeAlone(a[0]);
+            case "isAlive": return isAlive(a[0]);
+            case "parentOf": return parentOf(a[0]);
+            case "endOf": return endOf(a[0]);
+            case "usesLeft": return usesLeft(a[0]);
+            case "below": return below(a[0]);
+            case "tokens": return tokens();
+            case "capabilities": return capabilities(a[0], a[1]);
+            case "request": return request(a[0], a[1]);
+            case "whyDenied": return whyDenied(a[0], a[1]);
+            case "renewCredential": return renewCredential(a[0], a[1]);
+            case "revokeBelow": return revokeBelow(a[0]);
+            case "works": return works(a[0]);
+            case "endOfCredential": return endOfCredential(a[0]);
+            case "credentials": return credentials();
+            case "credentialsOf": return credentialsOf(a[0]);
+            case "pass": return pass(a[0]);
+            case "time": return time();
+            case "nextEnd": return nextEnd();
+            case "entries": return entries();
+            case "kindOf": return kindOf(a[0]);
+            case "subjectOf": return subjectOf(a[0]);
+            case "detailOf": return detailOf(a[0]);
+            case "sumOf": return sumOf(a[0]);
+            default: throw new AssertionError("no call " + call);
+        }
+    }
+
     int tokensMade() {
         return tokens.size();
     }
