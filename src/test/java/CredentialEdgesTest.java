@@ -198,7 +198,10 @@ public final class CredentialEdgesTest {
 
     /** Promise 17: 'Throws IllegalStateException if it would be given, and 40 credentials are alive'. */
     private static void fortyCredentialsAndNoMore() {
-        for (String room : new String[] {"revokeBelow", "pass", "revoke", "revokeAlone"}) {
+        String[] calls = {"revokeBelow", "pass", "revoke", "revokeAlone"};
+        int[] arguments = {2, 5, 1, 1};
+        int[] due = {1, 1, 2, 2};
+        for (int i = 0; i < calls.length; i++) {
             Broker broker = new Broker();
             broker.policy();
             broker.allow(0, 9, true, READ);
@@ -214,8 +217,7 @@ public final class CredentialEdgesTest {
             for (int token = 0; token < 3; token++) {
                 CHECKS.due("one more", broker.ask("request", token, 1 + token % 2), BAD_STATE);
             }
-            int argument = room.equals("pass") ? 5 : room.equals("revokeBelow") ? 2 : 1;
-            CHECKS.due(room, broker.ask(room, argument), room.startsWith("revoke") && argument == 1 ? 2 : 1);
+            CHECKS.due(calls[i], broker.ask(calls[i], arguments[i]), due[i]);
             CHECKS.due("room for one", broker.ask("request", 2, 1), 40);
             CHECKS.due("and no more", broker.ask("request", 2, 1), BAD_STATE);
         }

@@ -8,15 +8,40 @@ import java.util.TreeSet;
 
 /** The public face: its constants, its constructor, its methods, and nothing besides. */
 public final class FaceTest {
+    private static final String NUMBER = "IndexOutOfBoundsException", ARGUMENT = "IllegalArgumentException";
+    private static final String STATE = "IllegalStateException";
     private static final String[] METHODS = {
-        "int policy()", "int allow(int,int,boolean,int)", "int clear(int)", "int mount(int,int,int)",
-        "int create(int,int,int,int,int)", "int renew(int,int)", "int revoke(int)", "int revokeAlone(int)",
-        "boolean isAlive(int)", "int parentOf(int)", "int endOf(int)", "int usesLeft(int)", "int below(int)",
-        "int tokens()", "int capabilities(int,int)", "int request(int,int)", "int whyDenied(int,int)",
-        "int renewCredential(int,int)", "int revokeBelow(int)", "boolean works(int)",
-        "int endOfCredential(int)", "int credentials()", "int credentialsOf(int)", "int pass(int)",
-        "int time()", "int nextEnd()", "int entries()", "int kindOf(int)", "int subjectOf(int)",
-        "int detailOf(int)", "long sumOf(int)"};
+        "int policy() throws " + STATE,
+        "int allow(int,int,boolean,int) throws " + NUMBER + "," + ARGUMENT + "," + STATE,
+        "int clear(int) throws " + NUMBER,
+        "int mount(int,int,int) throws " + ARGUMENT + "," + STATE,
+        "int create(int,int,int,int,int) throws " + NUMBER + "," + ARGUMENT + "," + STATE,
+        "int renew(int,int) throws " + NUMBER + "," + ARGUMENT + "," + STATE,
+        "int revoke(int) throws " + NUMBER + "," + STATE,
+        "int revokeAlone(int) throws " + NUMBER + "," + STATE,
+        "boolean isAlive(int) throws " + NUMBER,
+        "int parentOf(int) throws " + NUMBER,
+        "int endOf(int) throws " + NUMBER,
+        "int usesLeft(int) throws " + NUMBER,
+        "int below(int) throws " + NUMBER,
+        "int tokens()",
+        "int capabilities(int,int) throws " + NUMBER + "," + ARGUMENT,
+        "int request(int,int) throws " + NUMBER + "," + ARGUMENT + "," + STATE,
+        "int whyDenied(int,int) throws " + NUMBER + "," + ARGUMENT,
+        "int renewCredential(int,int) throws " + NUMBER + "," + ARGUMENT + "," + STATE,
+        "int revokeBelow(int) throws " + ARGUMENT,
+        "boolean works(int) throws " + NUMBER,
+        "int endOfCredential(int) throws " + NUMBER,
+        "int credentials()",
+        "int credentialsOf(int) throws " + NUMBER,
+        "int pass(int) throws " + ARGUMENT,
+        "int time()",
+        "int nextEnd()",
+        "int entries()",
+        "int kindOf(int) throws " + NUMBER,
+        "int subjectOf(int) throws " + NUMBER,
+        "int detailOf(int) throws " + NUMBER,
+        "long sumOf(int) throws " + NUMBER};
 
     private static final String[] CONSTANTS = {
         "NONE=-1", "READ=1", "WRITE=2", "LIST=4", "DENY=8", "FINE=0", "ENDED=1", "USED_UP=2",
@@ -28,7 +53,7 @@ public final class FaceTest {
         Class<SecretBroker> face = SecretBroker.class;
         checks.due("modifiers", face.getModifiers(), Modifier.PUBLIC | Modifier.FINAL);
         checks.due("methods", methods(face, checks), new TreeSet<>(Arrays.asList(METHODS)));
-        checks.due("constants", constants(face), new TreeSet<>(Arrays.asList(CONSTANTS)));
+        checks.due("constants", constants(face, checks), new TreeSet<>(Arrays.asList(CONSTANTS)));
         Constructor<?>[] constructors = face.getDeclaredConstructors();
         checks.due("constructors", constructors.length, 1);
         checks.due("constructor", constructors[0].toString(), "public SecretBroker()");
@@ -56,18 +81,26 @@ public final class FaceTest {
     private static String told(Method method) {
         StringBuilder text = new StringBuilder();
         text.append(method.getReturnType()).append(' ').append(method.getName()).append('(');
-        String comma = "";
-        for (Class<?> parameter : method.getParameterTypes()) {
-            text.append(comma).append(parameter);
-            comma = ",";
-        }
-        return text.append(')').toString();
+        text.append(listed(method.getParameterTypes())).append(')');
+        Class<?>[] thrown = method.getExceptionTypes();
+        return thrown.length == 0 ? text.toString() : text + " throws " + listed(thrown);
     }
 
-    private static Set<String> constants(Class<?> face) throws IllegalAccessException {
+    private static String listed(Class<?>[] classes) {
+        StringBuilder text = new StringBuilder();
+        for (Class<?> one : classes) {
+            text.append(text.length() == 0 ? "" : ",").append(one.getSimpleName());
+        }
+        return text.toString();
+    }
+
+    private static Set<String> constants(Class<?> face, Checks checks) throws IllegalAccessException {
         Set<String> found = new TreeSet<>();
         for (Field field : face.getDeclaredFields()) {
             if (!Modifier.isPrivate(field.getModifiers())) {
+                checks.due(field + " is a constant", field.getModifiers(),
+                        Modifier.PUBLIC | Modifier.STATIC | Modifier.FINAL);
+                checks.due(field + " is an int", field.getType(), int.class);
                 found.add(field.getName() + "=" + field.getInt(null));
             }
         }

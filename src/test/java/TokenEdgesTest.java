@@ -341,12 +341,13 @@ public final class TokenEdgesTest {
                     broker.pass(passed);
                 }
                 int behind = passed + minutes < 10 ? 10 : passed + minutes > bound ? bound : passed + minutes;
-                int end = beginning + behind;
-                CHECKS.due("renewed by " + minutes, broker.ask("renew", 1, minutes), end);
-                CHECKS.due("its end", broker.endOf(1), end);
-                broker.pass(end - broker.time() - 1 > 0 ? end - broker.time() - 1 : 1);
-                CHECKS.due("alive ahead of the end", broker.isAlive(1), broker.time() < end);
-                CHECKS.due("ends then", broker.time() < end ? broker.ask("pass", 1) : 1, 1);
+                CHECKS.due("renewed by " + minutes, broker.ask("renew", 1, minutes), beginning + behind);
+                CHECKS.due("its end", broker.endOf(1), beginning + behind);
+                if (behind - passed > 1) {
+                    CHECKS.due("not yet", broker.ask("pass", behind - passed - 1), 0);
+                }
+                CHECKS.due("alive ahead of the end", broker.isAlive(1), true);
+                CHECKS.due("ends then", broker.ask("pass", 1), 1);
                 CHECKS.due("no longer alive", broker.isAlive(1), false);
             }
         }
@@ -388,7 +389,7 @@ public final class TokenEdgesTest {
 
     /** Promise 7: 'writes RENEWED with the token as the subject and its end as the detail', changed or not. */
     private static void renewWritesRenewed() {
-        int[][] due = {{1, 995, 1005 - 5}, {1, 1, 1000}, {2, 1000, 600}, {3, 1, 400}, {7, 75, 80}, {7, 76, 81}};
+        int[][] due = {{1, 995, 1000}, {1, 1, 1000}, {2, 1000, 600}, {3, 1, 400}, {7, 75, 80}, {7, 76, 81}};
         for (int[] its : due) {
             Broker broker = Checks.after(Pasts::lived);
             CHECKS.due("renewed", broker.ask("renew", its[0], its[1]), its[2]);
